@@ -353,10 +353,10 @@ public final class PuppetBar {
                 ease(t, u);
                 break;
             case DOWN:
-                letDown(t);
+                letToWhole(t, lengths[t] < 0, pulls[t] < 0);
                 break;
             case UP:
-                letUp(t);
+                letToWhole(t, lengths[t] >= 0, pulls[t] >= 0);
                 break;
             case NEAR:
                 letNear(t);
@@ -415,14 +415,6 @@ public final class PuppetBar {
         changePull(t, Reals.shortLesser(pulls[t], pulls[u]));
         changeKnots(t, Math.min(knots[t], knots[u]));
         changeTwist(t, Math.min(twists[t], twists[u]));
-    }
-
-    private void letDown(int t) {
-        letToWhole(t, lengths[t] < 0, pulls[t] < 0);
-    }
-
-    private void letUp(int t) {
-        letToWhole(t, lengths[t] >= 0, pulls[t] >= 0);
     }
 
     /** To the whole reals beside LENGTH and PULL: away from 0 where that is said, else towards it. */
