@@ -1,6 +1,8 @@
-/** Runs of 512 calls, the same ones every time, held against the Model answer by answer. */
+/** Runs of some 500 calls, the same ones every time, held against the Model answer by answer. */
 public final class ModelTest {
-    private static final int RUNS = 3000;
+    private static final int RUNS = 6000;
+    /** With the steps ahead, refused() behind each round and the state at the end, a run keeps to its 512 calls. */
+    private static final int ROUNDS = 170;
     private static final long[] LENGTHS = {0L, 1L, 2L, 3L, 0x000FFFFFFFFFFFFFL, 0x0010000000000000L,
         0x0010000000000001L, 0x001FFFFFFFFFFFFFL, 0x0020000000000000L, 0x3FDFFFFFFFFFFFFFL, 0x3FE0000000000000L,
         0x3FE0000000000001L, 0x3FEFFFFFFFFFFFFFL, 0x3FF0000000000000L, 0x3FF8000000000000L, 0x4004000000000000L,
@@ -52,11 +54,25 @@ public final class ModelTest {
         return isAny ? anyBits() : (below(2) == 0 ? shape : shape | Long.MIN_VALUE);
     }
 
+    /** So that a full figure is met too. */
+    private void almostFillFigure(PuppetBar x, Model y) {
+        for (int i = 0; i < 38; i++) {
+            int m = below(16);
+            int t = below(8);
+            int u = below(8);
+            x.step(m, t, u);
+            y.step(m, t, u);
+        }
+    }
+
     private void run(Check check, int run) {
         PuppetBar x = new PuppetBar();
         Model y = new Model();
-        for (int call = 0; call < 512; call++) {
-            String told = "run " + run + ", call " + call + ": ";
+        if (below(4) == 0) {
+            almostFillFigure(x, y);
+        }
+        for (int round = 0; round < ROUNDS; round++) {
+            String told = "run " + run + ", round " + round + ": ";
             int a = mostly(8);
             int b = mostly(8);
             int m = mostly(16);
@@ -102,11 +118,13 @@ public final class ModelTest {
     }
 
     private static void sameState(Check check, String told, PuppetBar x, Model y) {
-        for (int what = 0; what <= 5; what++) {
-            for (int t = 0; t < 8; t++) {
+        for (int t = 0; t < 8; t++) {
+            for (int what = 0; what <= 5; what++) {
                 check.due(told + "get(" + t + ", " + what + ")", x.get(t, what), y.get(t, what));
-                check.due(told + "order(" + t + ")", x.order(t), y.order(t));
             }
+            check.due(told + "order(" + t + ")", x.order(t), y.order(t));
+        }
+        for (int what = 0; what <= 5; what++) {
             check.due(told + "bar(" + what + ")", x.bar(what), y.bar(what));
             check.due(told + "danced(" + what + ")", x.danced(what), y.danced(what));
         }

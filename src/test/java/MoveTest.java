@@ -275,9 +275,9 @@ public final class MoveTest {
     }
 
     private static void refusals() {
-        PuppetBar x = new PuppetBar();
-        x.cut(6);
         for (int m = 0; m < 16; m++) {
+            PuppetBar x = new PuppetBar();
+            x.cut(6);
             boolean wantsU = m == 1 || m == 2 || m == 7 || m == 9 || m == 11;
             for (int outside : Check.OUTSIDE) {
                 refusal(x, m, outside, 0, 1);
@@ -290,6 +290,8 @@ public final class MoveTest {
             refusal(x, m, 0, 6, wantsU ? 4 : 0);
             refusal(x, m, 0, 7, 0);
         }
+        PuppetBar x = new PuppetBar();
+        x.cut(6);
         for (int m : new int[] {-1, 16, 17, MIN, Integer.MAX_VALUE}) {
             refusal(x, m, 0, 0, 5);
             refusal(x, m, 8, 8, 5);

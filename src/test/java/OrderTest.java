@@ -10,12 +10,6 @@ public final class OrderTest {
         check.end();
     }
 
-    private static void dueOrder(String when, PuppetBar x, int... threads) {
-        for (int k = 0; k < threads.length; k++) {
-            check.due(when + ": order(" + k + ")", x.order(k), threads[k]);
-        }
-    }
-
     private static void goesByLength() {
         double[] lengths = {Check.INFINITY, 0.0, -0.0, 2.0, -2.0, Double.MIN_VALUE, -1.0, -Check.INFINITY};
         int[] places = {7, 4, 3, 6, 1, 5, 2, 0};
@@ -24,7 +18,7 @@ public final class OrderTest {
             // All else speaks for the other order, and comes behind LENGTH.
             Check.put(x, t, lengths[t], -places[t], -places[t], -places[t]);
         }
-        dueOrder("by LENGTH", x, 7, 4, 6, 2, 1, 5, 3, 0);
+        check.dueOrder("by LENGTH", x, 7, 4, 6, 2, 1, 5, 3, 0);
     }
 
     private static void goesByPullThenKnotsThenTwistThenNumber() {
@@ -37,13 +31,13 @@ public final class OrderTest {
         Check.put(x, 5, 1.0, 0.0f, 5, 5L);
         Check.put(x, 6, 1.0, -1.0f, 9, 9L);
         Check.put(x, 7, 1.0, 0.0f, Integer.MIN_VALUE, Long.MAX_VALUE);
-        dueOrder("by the rest", x, 4, 6, 1, 7, 3, 2, 0, 5);
+        check.dueOrder("by the rest", x, 4, 6, 1, 7, 3, 2, 0, 5);
         x.set(0, Check.TWIST, Long.MAX_VALUE);
         x.set(5, Check.TWIST, Long.MIN_VALUE);
-        dueOrder("far TWISTS", x, 4, 6, 1, 7, 3, 5, 2, 0);
+        check.dueOrder("far TWISTS", x, 4, 6, 1, 7, 3, 5, 2, 0);
         x.set(0, Check.LOW, Check.bits(-9.0));
         x.set(0, Check.HIGH, Check.bits(-9.0));
-        dueOrder("stops do not count", x, 4, 6, 1, 7, 3, 5, 2, 0);
+        check.dueOrder("stops do not count", x, 4, 6, 1, 7, 3, 5, 2, 0);
     }
 
     private static void putsCutThreadsBehind() {
@@ -54,13 +48,13 @@ public final class OrderTest {
         x.cut(5);
         x.cut(2);
         x.cut(0);
-        dueOrder("three cut", x, 1, 3, 4, 6, 7, 0, 2, 5);
+        check.dueOrder("three cut", x, 1, 3, 4, 6, 7, 0, 2, 5);
         x.string(2);
-        dueOrder("one strung again", x, 1, 2, 3, 4, 6, 7, 0, 5);
+        check.dueOrder("one strung again", x, 1, 2, 3, 4, 6, 7, 0, 5);
         for (int t = 0; t < 8; t++) {
             x.cut(t);
         }
-        dueOrder("all cut", x, 0, 1, 2, 3, 4, 5, 6, 7);
+        check.dueOrder("all cut", x, 0, 1, 2, 3, 4, 5, 6, 7);
     }
 
     private static void hasEightPlaces() {
