@@ -21,6 +21,7 @@ public final class MoveTest {
         give();
         refusals();
         sameThreadTwice();
+        eachMoveLeavesTheRestAlone();
         check.end();
     }
 
@@ -324,6 +325,46 @@ public final class MoveTest {
             check.dueThread("move " + m + " of one thread", x, 2, -1.5, -0.0f, MIN, 8L);
             boolean stopped = m == Check.STOPS;
             check.dueStops("move " + m, x, 2, stopped ? -1.5 : -Check.INFINITY, stopped ? -1.5 : Check.INFINITY);
+        }
+    }
+
+    private static void eachMoveLeavesTheRestAlone() {
+        for (int m = 0; m < 16; m++) {
+            PuppetBar x = withSomethingEverywhere();
+            PuppetBar before = withSomethingEverywhere();
+            x.move(m, 2, 5);
+            boolean isTrade = m == Check.TRADE;
+            for (int t = 0; t < 8; t++) {
+                if (t != 2 && !(isTrade && t == 5)) {
+                    dueAlike(m, x, before, t, Check.LENGTH, Check.HIGH);
+                }
+            }
+            if (!isTrade && m != Check.STOPS) {
+                dueAlike(m, x, before, 2, Check.LOW, Check.HIGH);
+            }
+            for (int what = 0; m != Check.LEAN && m != Check.GATHER && what < 4; what++) {
+                check.due("move " + m + " leaves the bar: bar(" + what + ")", x.bar(what), before.bar(what));
+            }
+        }
+    }
+
+    /** A state in which thread 2 would change the bar by LEAN and by GATHER. */
+    private static PuppetBar withSomethingEverywhere() {
+        PuppetBar x = new PuppetBar();
+        for (int t = 0; t < 8; t++) {
+            Check.put(x, t, t - 4.5, 3.25f - t, t - 3, LONG_MIN + 6 - t);
+            x.set(t, Check.LOW, Check.bits(-1.0 - t));
+            x.set(t, Check.HIGH, Check.bits(1.0 + t));
+        }
+        x.move(Check.LEAN, 6, 6);
+        x.move(Check.GATHER, 6, 6);
+        return x;
+    }
+
+    private static void dueAlike(int m, PuppetBar x, PuppetBar before, int t, int firstPart, int lastPart) {
+        for (int what = firstPart; what <= lastPart; what++) {
+            check.due("move " + m + " leaves the rest: get(" + t + ", " + what + ")", x.get(t, what),
+                    before.get(t, what));
         }
     }
 }
